@@ -177,13 +177,17 @@ public final class LampCooperativePromises {
         due("sharesOf(0)", y.sharesOf(0), 1);
         due("streetOf(0)", y.streetOf(0), 3);
         // A number that a removed lamp had starts afresh.
+        y.burnNight();
+        y.payDividend();
         y.deliverOil(50);
+        y.donateWicks(3);
+        y.giveWick(0, 3);
         y.setBrightness(0, 4);
         y.switchOff(0);
         y.removeLamp(0);
         y.addLamp(2, 5);
         due("view", view(y), "0: street 2 shares 5 brightness 1 on true oil 0 wick 0 balance 0\n"
-                + "reserve 50 pool 0 treasury 0 nights 0 line ");
+                + "reserve 50 pool 3 treasury 12 nights 1 line ");
     }
 
     private static void promise3() {
@@ -566,7 +570,8 @@ public final class LampCooperativePromises {
     }
 
     private static void portions(String call, Portion portion) {
-        int[][] shares = {{1}, {9}, {3, 2, 2}, {1, 1, 1}, {2, 2, 3}, {9, 8, 7, 6, 5, 4, 3, 2}, {1, 1, 1, 1, 1, 1, 1, 1}};
+        int[][] shares = {{1}, {9}, {3, 2, 2}, {1, 1, 1}, {2, 2, 3}, {9, 8, 7, 6, 5, 4, 3, 2},
+            {1, 1, 1, 1, 1, 1, 1, 1}};
         int[][] amounts = {{999}, {0}, {10}, {2}, {5}, {100}, {11}};
         int[][] dues = {{999}, {0}, {4, 3, 3}, {1, 1, 0}, {2, 1, 2}, {20, 18, 16, 14, 11, 9, 7, 5},
             {2, 2, 2, 1, 1, 1, 1, 1}};
@@ -574,7 +579,8 @@ public final class LampCooperativePromises {
             LampCooperative x = withLamps(shares[row]);
             String before = view(x);
             for (int lamp = 0; lamp < shares[row].length; lamp++) {
-                due(call + " of lamp " + lamp + " in row " + row, portion.of(x, lamp, amounts[row][0]), dues[row][lamp]);
+                int portionDue = dues[row][lamp];
+                due(call + " of lamp " + lamp + " in row " + row, portion.of(x, lamp, amounts[row][0]), portionDue);
             }
             due("the state after " + call, view(x), before);
             due("undoable", undoable(x), shares[row].length);
@@ -620,6 +626,14 @@ public final class LampCooperativePromises {
         }
         refused(x, "the seventh addMoth", STATE, () -> x.addMoth(0));
         noSuchLamp(x, "the seventh addMoth", x::addMoth);
+        // A number that a moth had which left starts afresh.
+        LampCooperative y = supplied();
+        y.addMoth(0);
+        y.burnNight();
+        y.burnNight();
+        due("addMoth", y.addMoth(1), 0);
+        due("strikesOf", y.strikesOf(0), 0);
+        due("probationOf", y.probationOf(0), 3);
     }
 
     private static void promise28() {
@@ -946,6 +960,12 @@ public final class LampCooperativePromises {
         x.switchOff(0);
         x.switchOff(1);
         due("brightestStreet() of dark ones", x.brightestStreet(), 0);
+        LampCooperative y = supplied();
+        due("brightestStreet() of equal ones", y.brightestStreet(), 0);
+        y.setBrightness(1, 2);
+        due("brightestStreet()", y.brightestStreet(), 1);
+        y.setBrightness(0, 3);
+        due("brightestStreet()", y.brightestStreet(), 0);
     }
 
     private static void promise42() {
@@ -1064,6 +1084,12 @@ public final class LampCooperativePromises {
         for (int rank = 0; rank < 4; rank++) {
             due("longestLamp(" + rank + ")", x.longestLamp(rank), dues[rank]);
         }
+        x.giveWick(0, 5);
+        x.setBrightness(1, 4);
+        int[] later = {0, 3, 1, 2};
+        for (int rank = 0; rank < 4; rank++) {
+            due("longestLamp(" + rank + ")", x.longestLamp(rank), later[rank]);
+        }
         badRanks(x, "longestLamp", x::longestLamp);
         badRanks(new LampCooperative(), "longestLamp", new LampCooperative()::longestLamp);
     }
@@ -1072,9 +1098,10 @@ public final class LampCooperativePromises {
         LampCooperative x = withLamps(1, 1, 1);
         due("writeLamp(1)", x.writeLamp(1), 9);
         due("line", line(x), "1:1*1o0w0");
+        writtenLines();
     }
 
-    private static void promise48WithAllParts() {
+    private static void writtenLines() {
         LampCooperative x = new LampCooperative();
         x.addLamp(3, 1);
         x.addLamp(2, 1);
@@ -1221,10 +1248,15 @@ public final class LampCooperativePromises {
         due("pool()", x.pool(), 21);
         due("execute of 60 characters", run(x, "oil 001;oil 001;oil 001;oil 001;oil 01;oil 01;oil 01;oil 001"), 8);
         due("oilOf(0)", x.oilOf(0), 11);
+        due("execute of a carried motion", run(x, "lamp 3 1;lamp 2 9;bright 0 5;bright 1 4;cap 2"), 5);
+        due("brightnessOf(0)", x.brightnessOf(0), 2);
+        due("brightnessOf(1)", x.brightnessOf(1), 2);
+        due("brightnessOf(2)", x.brightnessOf(2), 1);
+        failingTexts();
     }
 
     /** Each command fails just as its method does, and takes back what came before it. */
-    private static void promise53Failures() {
+    private static void failingTexts() {
         LampCooperative x = withLamps(1, 1);
         x.deliverOil(100);
         fails(x, "night;lamp 4 1", 1);
@@ -1273,7 +1305,9 @@ public final class LampCooperativePromises {
         LampCooperative x = withLamps(1);
         refused(x, "errorPosition()", NO_ELEMENT, x::errorPosition);
         due("execute", run(x, "night"), 1);
-        fails54(x);
+        type(x, "on 5");
+        refused(x, "execute of a failing text", STATE, x::execute);
+        refused(x, "errorPosition() after a failing text", NO_ELEMENT, x::errorPosition);
         refused(x, "execute of an empty text", ARGUMENT, x::execute);
         due("errorPosition()", x.errorPosition(), 0);
         for (String[] row : new String[][] {
@@ -1285,8 +1319,8 @@ public final class LampCooperativePromises {
                 {"oil -1", "4"}, {"oill", "3"}, {"on", "2"}, {"one", "2"}, {"on ", "3"}, {"on 12", "4"}, {"on x", "3"},
                 {"off", "3"}, {"off 1 2", "5"}, {"lamp 1", "6"}, {"lamp 1 ", "7"}, {"lamp 1 22", "8"},
                 {"lamp 11 2", "6"}, {"lamp1 2", "4"}, {"lam", "3"}, {"lemp", "1"}, {"remove", "6"}, {"remove 0 1", "8"},
-                {"remov 0", "5"}, {"wick", "4"}, {"wick 0000", "8"}, {"wack", "1"}, {"give 1;", "6"}, {"give 1 2 3", "8"},
-                {"gi", "2"}, {"bright 1", "8"}, {"bright 1 23", "10"}, {"bu", "2"}, {"buy 1", "5"}, {"buy 12", "5"},
+                {"remov 0", "5"}, {"wick", "4"}, {"wick 0000", "8"}, {"wack", "1"}, {"give 1;", "6"},
+                {"give 1 2 3", "8"}, {"gi", "2"}, {"bright 1", "8"}, {"bright 1 23", "10"}, {"bu", "2"}, {"buy 1", "5"}, {"buy 12", "5"},
                 {"buy 1 ", "6"}, {"buy 1 1234", "9"}, {"buy 1 123 ", "9"}, {"b", "1"}, {"ba", "1"}, {"br", "2"},
                 {"bry", "2"}, {"moth", "4"}, {"moth 12", "6"}, {"cap", "3"}, {"cap 1 2", "5"}, {"caps", "3"},
                 {"p", "1"}, {"pa", "2"}, {"pays", "3"}, {"pay pay", "3"}, {"pay;pa", "6"}, {"pay;oil 1;nighty", "15"},
@@ -1305,12 +1339,6 @@ public final class LampCooperativePromises {
         x.save();
         x.restore();
         due("errorPosition() after restore", x.errorPosition(), 1);
-    }
-
-    private static void fails54(LampCooperative x) {
-        type(x, "on 5");
-        refused(x, "execute of a failing text", STATE, x::execute);
-        refused(x, "errorPosition()", NO_ELEMENT, x::errorPosition);
     }
 
     private static void promise55() {
@@ -1408,7 +1436,13 @@ public final class LampCooperativePromises {
         LampCooperative x = supplied();
         refused(x, "restore()", STATE, x::restore);
         x.addMoth(1);
+        x.addMoth(0);
+        x.moveMoth(1, -1);
         x.burnNight();
+        String early = view(x);
+        x.burnNight();
+        due("undo()", x.undo(), 7);
+        due("view after undo", view(x), early);
         x.save();
         String saved = view(x);
         x.payDividend();
@@ -1441,8 +1475,64 @@ public final class LampCooperativePromises {
         due("streetOf(0)", y.streetOf(0), 1);
     }
 
-    private static void check(int number, Runnable test) {
-        promise = "promise " + number;
+    /** The greatest numbers of lamps and moths, through every call that goes over all of them. */
+    private static void fullHouse() {
+        LampCooperative x = withLamps(9, 8, 7, 6, 5, 4, 3, 2);
+        for (int moth = 0; moth < 6; moth++) {
+            x.addMoth(7 - moth);
+        }
+        x.deliverOil(176);
+        x.donateWicks(50);
+        x.donateWicks(30);
+        for (int lamp = 0; lamp < 8; lamp++) {
+            x.giveWick(lamp, 9 - lamp);
+            due("oilOf(" + lamp + ")", x.oilOf(lamp), 36 - 4 * lamp);
+        }
+        due("nightsOf(7)", x.nightsOf(7), 2);
+        due("totalShares()", x.totalShares(), 44);
+        due("votesFor(1)", x.votesFor(1), 44);
+        due("lowestCap()", x.lowestCap(), 1);
+        x.setBrightness(7, 5);
+        due("proposeCap(4)", x.proposeCap(4), true);
+        due("brightnessOf(7)", x.brightnessOf(7), 4);
+        due("glowOf(3)", x.glowOf(3), 5);
+        due("isDark(3)", x.isDark(3), false);
+        due("brightestStreet()", x.brightestStreet(), 3);
+        due("meanOil()", x.meanOil(), 22.0);
+        due("isBalanced()", x.isBalanced(), true);
+        x.switchOff(7);
+        due("burnNight()", x.burnNight(), 7);
+        x.switchOn(7);
+        due("treasury()", x.treasury(), 0);
+        due("burnNight()", x.burnNight(), 8);
+        due("mothCount()", x.mothCount(), 1);
+        due("lampOfMoth(0)", x.lampOfMoth(0), 7);
+        due("strikesOf(0)", x.strikesOf(0), 1);
+        due("probationOf(0)", x.probationOf(0), 2);
+        for (int lamp = 0; lamp < 8; lamp++) {
+            x.switchOff(lamp);
+        }
+        due("burnNight()", x.burnNight(), 0);
+        due("payDividend()", x.payDividend(), 12);
+        int[] coins = {2, 2, 2, 2, 1, 1, 1, 1};
+        for (int lamp = 0; lamp < 8; lamp++) {
+            due("balanceOf(" + lamp + ")", x.balanceOf(lamp), coins[lamp]);
+            due("richestLamp(" + lamp + ")", x.richestLamp(lamp), lamp);
+            due("longestLamp(" + lamp + ")", x.longestLamp(lamp), lamp);
+        }
+        for (int moth = 1; moth < 6; moth++) {
+            x.addMoth(moth);
+        }
+        due("removeLamp(0)", x.removeLamp(0), 7);
+        due("undo()", x.undo(), 7);
+        due("removeLamp(7)", x.removeLamp(7), 7);
+        due("lampOfMoth(0)", x.lampOfMoth(0), -1);
+        due("lampOfMoth(5)", x.lampOfMoth(5), 5);
+        due("isBalanced()", x.isBalanced(), true);
+    }
+
+    private static void check(String name, Runnable test) {
+        promise = name;
         try {
             test.run();
         } catch (RuntimeException e) {
@@ -1475,10 +1565,9 @@ public final class LampCooperativePromises {
             LampCooperativePromises::promise55, LampCooperativePromises::promise56, LampCooperativePromises::promise57,
             LampCooperativePromises::promise58};
         for (int number = 1; number <= tests.length; number++) {
-            check(number, tests[number - 1]);
+            check("promise " + number, tests[number - 1]);
         }
-        check(48, LampCooperativePromises::promise48WithAllParts);
-        check(53, LampCooperativePromises::promise53Failures);
+        check("a full house", LampCooperativePromises::fullHouse);
         System.out.println(wrong == 0 ? "all promises hold" : wrong + " answers are wrong");
         if (wrong != 0) {
             System.exit(1);
