@@ -1167,10 +1167,11 @@ public final class LampCooperative {
         boolean parse() {
             position = 0;
             commands = 0;
-            while (commands < MAX_COMMANDS) {
-                if (!readCommand()) {
+            for (int command = 0; command < MAX_COMMANDS; command++) {
+                if (!readCommand(command)) {
                     return false;
                 }
+                commands = command + 1;
                 if (position >= length) {
                     return true;
                 }
@@ -1181,14 +1182,14 @@ public final class LampCooperative {
             return false;
         }
 
-        private boolean readCommand() {
+        private boolean readCommand(int command) {
             Verb verb = readVerb();
             if (verb == null) {
                 return false;
             }
-            verbs[commands] = verb;
-            firsts[commands] = 0;
-            seconds[commands] = 0;
+            verbs[command] = verb;
+            firsts[command] = 0;
+            seconds[command] = 0;
             int arguments = verb.hasNumber ? verb.digits + 1 : verb.digits;
             for (int argument = 0; argument < arguments; argument++) {
                 int digits = argument < verb.digits ? 1 : MAX_NUMBER_DIGITS;
@@ -1197,12 +1198,11 @@ public final class LampCooperative {
                     return false;
                 }
                 if (argument == 0) {
-                    firsts[commands] = value;
+                    firsts[command] = value;
                 } else {
-                    seconds[commands] = value;
+                    seconds[command] = value;
                 }
             }
-            commands++;
             return true;
         }
 

@@ -1253,6 +1253,97 @@ public final class LampCooperativePromises {
         due("brightnessOf(1)", x.brightnessOf(1), 2);
         due("brightnessOf(2)", x.brightnessOf(2), 1);
         failingTexts();
+        commandsStandForTheirMethods();
+    }
+
+    /** A busy cooperative: a lamp that is off, a member, a moth with a strike, coins in balances and a reserve. */
+    private static LampCooperative busy(int moths) {
+        LampCooperative x = withLamps(3, 2, 4);
+        x.burnNight();
+        x.burnNight();
+        x.payDividend();
+        x.deliverOil(200);
+        x.donateWicks(40);
+        x.giveWick(0, 5);
+        x.giveWick(1, 9);
+        x.setBrightness(1, 5);
+        x.setBrightness(2, 3);
+        x.switchOff(0);
+        x.addMoth(0);
+        x.burnNight();
+        x.burnNight();
+        x.burnNight();
+        x.moveMoth(0, 1);
+        x.addMoth(1);
+        x.burnNight();
+        while (x.mothCount() < moths) {
+            x.addMoth(2);
+        }
+        return x;
+    }
+
+    /** Each command alone, against the call of its method on an object with the same past. */
+    private static void commandsStandForTheirMethods() {
+        due("view", view(busy(3)), "0: street 0 shares 3 brightness 1 on false oil 60 wick 5 balance 8\n"
+                + "1: street 1 shares 2 brightness 5 on true oil 23 wick 5 balance 5\n"
+                + "2: street 2 shares 4 brightness 3 on true oil 60 wick 0 balance 11\n"
+                + "moth 0 at 1 strikes 0 probation 0 member true\n"
+                + "moth 1 at 1 strikes 1 probation 3 member false\n"
+                + "moth 2 at 2 strikes 0 probation 3 member false\n"
+                + "reserve 36 pool 26 treasury 36 nights 6 line ");
+        same("lamp 0 5", x -> x.addLamp(0, 5));
+        same("lamp 2 1", x -> x.addLamp(2, 1));
+        same("remove 0", x -> x.removeLamp(0));
+        same("remove 1", x -> x.removeLamp(1));
+        same("oil 17", x -> x.deliverOil(17));
+        same("oil 2", x -> x.deliverOil(2));
+        same("wick 3", x -> x.donateWicks(3));
+        same("wick 0", x -> x.donateWicks(0));
+        same("give 2 1", x -> x.giveWick(2, 1));
+        same("give 1 2", x -> x.giveWick(1, 2));
+        same("bright 1 2", x -> x.setBrightness(1, 2));
+        same("bright 2 1", x -> x.setBrightness(2, 1));
+        same("bright 0 0", x -> x.setBrightness(0, 0));
+        same("on 0", x -> x.switchOn(0));
+        same("on 1", x -> x.switchOn(1));
+        same("on 3", x -> x.switchOn(3));
+        same("off 0", x -> x.switchOff(0));
+        same("off 1", x -> x.switchOff(1));
+        same("off 3", x -> x.switchOff(3));
+        same("moth 1", x -> x.addMoth(1));
+        same("moth 3", x -> x.addMoth(3));
+        same("cap 1", x -> x.proposeCap(1));
+        same("cap 3", x -> x.proposeCap(3));
+        same("cap 4", x -> x.proposeCap(4));
+        same("night", LampCooperative::burnNight);
+        same("pay", LampCooperative::payDividend);
+        same("buy 1 2", x -> x.buyOil(1, 2));
+        same("buy 2 1", x -> x.buyOil(2, 1));
+        same("buy 0 60", x -> x.buyOil(0, 60));
+    }
+
+    private static void same(String text, java.util.function.Consumer<LampCooperative> call) {
+        for (int moths = 2; moths <= 6; moths++) {
+            LampCooperative byText = busy(moths);
+            LampCooperative byCall = busy(moths);
+            boolean possible = true;
+            try {
+                call.accept(byCall);
+            } catch (RuntimeException e) {
+                possible = false;
+            }
+            type(byText, text);
+            if (possible) {
+                due("execute of \"" + text + "\"", byText.execute(), 1);
+            } else {
+                refused(byText, "execute of \"" + text + "\"", STATE, byText::execute);
+                due("failedCommand of \"" + text + "\"", byText.failedCommand(), 0);
+            }
+            due("the state after \"" + text + "\"", view(byText), view(byCall));
+            due("isBalanced() after \"" + text + "\"", byText.isBalanced(), true);
+            due("what can be undone after \"" + text + "\"", undoable(byText), undoable(byCall));
+            due("the state before \"" + text + "\"", view(byText), view(byCall));
+        }
     }
 
     /** Each command fails just as its method does, and takes back what came before it. */
@@ -1313,7 +1404,7 @@ public final class LampCooperativePromises {
         for (String[] row : new String[][] {
                 {" ", "0"}, {"x", "0"}, {";", "0"}, {"N", "0"}, {"0", "0"}, {" night", "0"},
                 {"n", "1"}, {"nx", "1"}, {"nigh", "4"}, {"nighs", "4"}, {"nightt", "5"}, {"night ", "5"},
-                {"night 1", "5"}, {"night;", "6"}, {"night;;", "6"}, {"night; pay", "6"}, {"night;x", "6"},
+                {"night 1", "5"}, {"nightn", "5"}, {"nightnight", "5"}, {"on 1off 2", "4"}, {"oil 1pay", "5"}, {"night;", "6"}, {"night;;", "6"}, {"night; pay", "6"}, {"night;x", "6"},
                 {"night,pay", "5"}, {"o", "1"}, {"ox", "1"}, {"of", "2"}, {"of 1", "2"}, {"oi", "2"}, {"oil", "3"},
                 {"oil ", "4"}, {"oil  1", "4"}, {"oil 1 ", "5"}, {"oil 1234", "7"}, {"oil 12x", "6"}, {"oil 1;", "6"},
                 {"oil -1", "4"}, {"oill", "3"}, {"on", "2"}, {"one", "2"}, {"on ", "3"}, {"on 12", "4"}, {"on x", "3"},
