@@ -1303,6 +1303,7 @@ public final class LampCooperativePromises {
         same("give 1 2", x -> x.giveWick(1, 2));
         same("bright 1 2", x -> x.setBrightness(1, 2));
         same("bright 2 1", x -> x.setBrightness(2, 1));
+        same("bright 0 2", x -> x.setBrightness(0, 2));
         same("bright 0 0", x -> x.setBrightness(0, 0));
         same("on 0", x -> x.switchOn(0));
         same("on 1", x -> x.switchOn(1));
@@ -1320,6 +1321,11 @@ public final class LampCooperativePromises {
         same("buy 1 2", x -> x.buyOil(1, 2));
         same("buy 2 1", x -> x.buyOil(2, 1));
         same("buy 0 60", x -> x.buyOil(0, 60));
+        // A motion for cap 1 would be carried here: a moth at lamp 1 must not bring one.
+        LampCooperative y = withLamps(1, 9);
+        y.setBrightness(0, 3);
+        due("execute", run(y, "moth 1"), 1);
+        due("brightnessOf(0)", y.brightnessOf(0), 3);
     }
 
     private static void same(String text, java.util.function.Consumer<LampCooperative> call) {
