@@ -4,125 +4,8 @@ import java.util.NoSuchElementException;
 import java.util.function.Supplier;
 
 /** One method for each promise of the document, with ordinary inputs, the named edges and wrong inputs. */
-public final class LampCooperativePromises {
-    private static final Class<?> INDEX = IndexOutOfBoundsException.class;
-    private static final Class<?> ARGUMENT = IllegalArgumentException.class;
-    private static final Class<?> STATE = IllegalStateException.class;
-    private static final Class<?> NO_ELEMENT = NoSuchElementException.class;
+public final class LampCooperativePromises extends CooperativeTest {
     private static final int[] NO_LAMPS_OF_TWO = {-1, 2, 3, 8, Integer.MIN_VALUE, Integer.MAX_VALUE};
-
-    private static int wrong = 0;
-    private static String promise = "";
-
-    private static void due(String call, Object got, Object want) {
-        if (!want.equals(got)) {
-            wrong++;
-            System.out.println(promise + ": " + call + " answered " + got + ", due is " + want);
-        }
-    }
-
-    /** Exactly the class that the document names: a subclass would come from the machine. */
-    private static void refused(LampCooperative x, String call, Class<?> kind, Supplier<Object> supplier) {
-        String before = view(x);
-        try {
-            Object answer = supplier.get();
-            wrong++;
-            System.out.println(promise + ": " + call + " answered " + answer + ", due is " + kind.getSimpleName());
-        } catch (RuntimeException e) {
-            due(call + " throws", e.getClass(), kind);
-        }
-        due("the state after " + call, view(x), before);
-    }
-
-    /** Everything that the queries tell. */
-    private static String view(LampCooperative x) {
-        StringBuilder all = new StringBuilder();
-        for (int lamp = 0; lamp < x.lampCount(); lamp++) {
-            all.append(lamp).append(": street ").append(x.streetOf(lamp));
-            all.append(" shares ").append(x.sharesOf(lamp)).append(" brightness ").append(x.brightnessOf(lamp));
-            all.append(" on ").append(x.isOn(lamp)).append(" oil ").append(x.oilOf(lamp));
-            all.append(" wick ").append(x.wickOf(lamp)).append(" balance ").append(x.balanceOf(lamp)).append('\n');
-        }
-        for (int moth = 0; moth < x.mothCount(); moth++) {
-            all.append("moth ").append(moth).append(" at ").append(x.lampOfMoth(moth));
-            all.append(" strikes ").append(x.strikesOf(moth)).append(" probation ").append(x.probationOf(moth));
-            all.append(" member ").append(x.isMember(moth)).append('\n');
-        }
-        all.append("reserve ").append(x.reserve()).append(" pool ").append(x.pool());
-        all.append(" treasury ").append(x.treasury()).append(" nights ").append(x.nightCount());
-        all.append(" line ").append(line(x));
-        return all.toString();
-    }
-
-    private static String line(LampCooperative x) {
-        StringBuilder line = new StringBuilder();
-        for (int index = 0; index < 40; index++) {
-            try {
-                line.append(x.lineAt(index));
-            } catch (IndexOutOfBoundsException e) {
-                return line.toString();
-            }
-        }
-        return line.toString();
-    }
-
-    private static void type(LampCooperative x, String text) {
-        for (int index = 0; index < text.length(); index++) {
-            due("type", x.type(text.charAt(index)), index + 1);
-        }
-    }
-
-    private static int run(LampCooperative x, String text) {
-        type(x, text);
-        return x.execute();
-    }
-
-    private static void malformed(LampCooperative x, String text, int position) {
-        type(x, text);
-        refused(x, "execute of \"" + text + "\"", ARGUMENT, x::execute);
-        due("errorPosition of \"" + text + "\"", x.errorPosition(), position);
-        due("the buffer after \"" + text + "\"", x.type('n'), 1);
-        refused(x, "execute of \"n\"", ARGUMENT, x::execute);
-    }
-
-    private static void fails(LampCooperative x, String text, int command) {
-        type(x, text);
-        refused(x, "execute of \"" + text + "\"", STATE, x::execute);
-        due("failedCommand of \"" + text + "\"", x.failedCommand(), command);
-        due("the buffer after \"" + text + "\"", x.type('n'), 1);
-        refused(x, "execute of \"n\"", ARGUMENT, x::execute);
-    }
-
-    private static LampCooperative withLamps(int... shares) {
-        LampCooperative x = new LampCooperative();
-        for (int lamp = 0; lamp < shares.length; lamp++) {
-            x.addLamp(lamp % 4, shares[lamp]);
-        }
-        return x;
-    }
-
-    /** Two lamps in streets 0 and 1 with oil and wick for many nights. */
-    private static LampCooperative supplied() {
-        LampCooperative x = withLamps(1, 1);
-        x.deliverOil(80);
-        x.donateWicks(50);
-        x.giveWick(0, 9);
-        x.giveWick(1, 9);
-        return x;
-    }
-
-    private static int undoable(LampCooperative x) {
-        int undone = 0;
-        while (undone < 20) {
-            try {
-                x.undo();
-                undone++;
-            } catch (IllegalStateException e) {
-                return undone;
-            }
-        }
-        return undone;
-    }
 
     private static void noSuchLamp(LampCooperative x, String call, java.util.function.IntFunction<Object> query) {
         for (int lamp : NO_LAMPS_OF_TWO) {
@@ -1148,7 +1031,7 @@ public final class LampCooperativePromises {
 
     private static void promise50() {
         LampCooperative x = new LampCooperative();
-        refused(x, "meanOil()", ArithmeticException.class, x::meanOil);
+        refused(x, "meanOil()", ARITHMETIC, x::meanOil);
         x.addLamp(0, 1);
         due("meanOil()", x.meanOil(), 0.0);
         x.addLamp(0, 1);
@@ -1628,17 +1511,6 @@ public final class LampCooperativePromises {
         due("isBalanced()", x.isBalanced(), true);
     }
 
-    private static void check(String name, Runnable test) {
-        promise = name;
-        try {
-            test.run();
-        } catch (RuntimeException e) {
-            wrong++;
-            System.out.println(promise + ": stopped by " + e);
-            e.printStackTrace(System.out);
-        }
-    }
-
     public static void main(String[] args) {
         Runnable[] tests = {
             LampCooperativePromises::promise1, LampCooperativePromises::promise2, LampCooperativePromises::promise3,
@@ -1665,9 +1537,6 @@ public final class LampCooperativePromises {
             check("promise " + number, tests[number - 1]);
         }
         check("a full house", LampCooperativePromises::fullHouse);
-        System.out.println(wrong == 0 ? "all promises hold" : wrong + " answers are wrong");
-        if (wrong != 0) {
-            System.exit(1);
-        }
+        finish("all promises hold");
     }
 }
