@@ -14,8 +14,12 @@ import java.util.regex.Pattern;
  * lamps and moths as objects, whole copies for undo, a regular expression for the texts.
  */
 public final class LampCooperativeAgainstModel {
-    private static final int RUNS = 400;
+    private static final int RUNS = 10000;
+    /** What an object answers after so many calls is free. */
     private static final int CALLS = 512;
+    /** A step is one call, or a text with the calls that follow it; a view asks for all of 8 lamps and 6 moths. */
+    private static final int CALLS_OF_A_STEP = 90;
+    private static final int CALLS_OF_A_VIEW = 90;
 
     private static final class Lamp {
         final int street;
@@ -509,7 +513,8 @@ public final class LampCooperativeAgainstModel {
         String view() {
             StringBuilder all = new StringBuilder();
             for (Lamp lamp : world.lamps) {
-                all.append(lamp.written(0)).append(' ').append(lamp.shares).append(' ').append(lamp.balance).append('\n');
+                all.append(lamp.written(0)).append(' ').append(lamp.shares).append(' ');
+                all.append(lamp.balance).append('\n');
             }
             for (Moth moth : world.moths) {
                 all.append(world.lamps.indexOf(moth.lamp)).append(' ').append(moth.strikes).append(' ');
@@ -522,12 +527,14 @@ public final class LampCooperativeAgainstModel {
 
     private static String view(LampCooperative x) {
         StringBuilder all = new StringBuilder();
-        for (int lamp = 0; lamp < x.lampCount(); lamp++) {
+        int lamps = x.lampCount();
+        for (int lamp = 0; lamp < lamps; lamp++) {
             all.append("0:").append(x.streetOf(lamp)).append('*').append(x.brightnessOf(lamp)).append('o');
             all.append(x.oilOf(lamp)).append('w').append(x.wickOf(lamp)).append(x.isOn(lamp) ? "" : "!").append(' ');
             all.append(x.sharesOf(lamp)).append(' ').append(x.balanceOf(lamp)).append('\n');
         }
-        for (int moth = 0; moth < x.mothCount(); moth++) {
+        int moths = x.mothCount();
+        for (int moth = 0; moth < moths; moth++) {
             all.append(x.lampOfMoth(moth)).append(' ').append(x.strikesOf(moth)).append(' ');
             all.append(x.probationOf(moth)).append(' ').append(x.isMember(moth)).append('\n');
         }
@@ -661,8 +668,14 @@ public final class LampCooperativeAgainstModel {
                 System.out.println(told + "due is " + want);
                 return false;
             }
-            if (!view(x).equals(model.view())) {
-                System.out.println(told + "left\n" + view(x) + "\ndue is\n" + model.view());
+            return true;
+        }
+
+        boolean agreesOnState() {
+            calls += CALLS_OF_A_VIEW;
+            String got = view(x);
+            if (!got.equals(model.view())) {
+                System.out.println(told + "left\n" + got + "\ndue is\n" + model.view());
                 return false;
             }
             return true;
@@ -679,14 +692,17 @@ public final class LampCooperativeAgainstModel {
 
         boolean agrees() {
             int textsIn = random.nextInt(30) + 2;
-            while (calls < CALLS - 70) {
+            int looksIn = random.nextInt(60) + 2;
+            // Half of the runs look at the state, the others have the more calls for it.
+            int kept = random.nextBoolean() ? 2 * CALLS_OF_A_VIEW : 0;
+            while (calls + CALLS_OF_A_STEP + kept <= CALLS) {
                 boolean fine = random.nextInt(textsIn) == 0 ? agreesOnText(randomText(random))
                         : agreesOn(NAMES[random.nextInt(NAMES.length)], number(random), number(random));
-                if (!fine) {
+                if (!fine || kept > 0 && random.nextInt(looksIn) == 0 && !agreesOnState()) {
                     return false;
                 }
             }
-            return true;
+            return kept == 0 || agreesOnState();
         }
     }
 

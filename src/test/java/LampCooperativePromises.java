@@ -1,18 +1,20 @@
-import java.util.ArrayList;
 import java.util.List;
-import java.util.NoSuchElementException;
-import java.util.function.Supplier;
+import java.util.function.Function;
+import java.util.function.IntFunction;
 
 /** One method for each promise of the document, with ordinary inputs, the named edges and wrong inputs. */
 public final class LampCooperativePromises extends CooperativeTest {
     private static final int[] NO_LAMPS_OF_TWO = {-1, 2, 3, 8, Integer.MIN_VALUE, Integer.MAX_VALUE};
+    /** Each can follow on those before it. */
+    private static final List<Function<LampCooperative, Object>> MODIFICATIONS = List.of(
+            x -> x.addLamp(0, 1), x -> x.addLamp(1, 2), x -> x.setShares(0, 1), x -> x.setBrightness(0, 3),
+            x -> x.switchOn(0), x -> x.switchOff(1), x -> x.deliverOil(200), x -> x.donateWicks(20),
+            x -> x.giveWick(0, 9), x -> x.returnWick(0, 1), x -> x.addMoth(1), x -> x.moveMoth(0, 1),
+            x -> x.moveMoth(0, 0), x -> x.burnNight(), x -> x.payDividend(), x -> x.buyOil(0, 2),
+            x -> x.proposeCap(1), x -> x.proposeCap(4), x -> run(x, "night;off 0;night;on 0"), x -> x.removeLamp(0));
 
-    private static void noSuchLamp(LampCooperative x, String call, java.util.function.IntFunction<Object> query) {
-        for (int lamp : NO_LAMPS_OF_TWO) {
-            refused(x, call + "(" + lamp + ")", INDEX, () -> query.apply(lamp));
-        }
-        LampCooperative empty = new LampCooperative();
-        due("lampCount()", empty.lampCount(), 0);
+    private static void noSuchLamp(LampCooperative x, String call, IntFunction<Object> query) {
+        refusedAll(x, call + "(..)", INDEX, query, NO_LAMPS_OF_TWO);
     }
 
     private static void promise1() {
@@ -46,15 +48,11 @@ public final class LampCooperativePromises extends CooperativeTest {
             due("addLamp", x.addLamp(lamp % 4, lamp + 2), lamp);
             due("view", view(x).contains(lamp + ": street " + lamp % 4 + " shares " + (lamp + 2)
                     + " brightness 1 on true oil 0 wick 0 balance 0\n"), true);
-            for (int street : new int[] {-1, 4, Integer.MIN_VALUE, Integer.MAX_VALUE}) {
-                refused(x, "addLamp(" + street + ", 1)", ARGUMENT, () -> x.addLamp(street, 1));
-            }
-            for (int shares : new int[] {0, -1, 10, Integer.MIN_VALUE, Integer.MAX_VALUE}) {
-                refused(x, "addLamp(0, " + shares + ")", ARGUMENT, () -> x.addLamp(0, shares));
-            }
         }
-        refused(x, "the ninth addLamp", STATE, () -> x.addLamp(0, 1));
+        dueThrow("the ninth addLamp", STATE, () -> x.addLamp(0, 1));
         due("lampCount()", x.lampCount(), 8);
+        wrongLamps(new LampCooperative());
+        wrongLamps(withLamps(1, 2, 3, 4, 5, 6, 7, 8));
         LampCooperative y = new LampCooperative();
         due("addLamp(3, 1)", y.addLamp(3, 1), 0);
         due("sharesOf(0)", y.sharesOf(0), 1);
@@ -73,6 +71,13 @@ public final class LampCooperativePromises extends CooperativeTest {
                 + "reserve 50 pool 3 treasury 12 nights 1 line ");
     }
 
+    private static void wrongLamps(LampCooperative x) {
+        refusedAll(x, "addLamp(.., 1)", ARGUMENT, street -> x.addLamp(street, 1),
+                -1, 4, Integer.MIN_VALUE, Integer.MAX_VALUE);
+        refusedAll(x, "addLamp(0, ..)", ARGUMENT, shares -> x.addLamp(0, shares),
+                0, -1, 10, Integer.MIN_VALUE, Integer.MAX_VALUE);
+    }
+
     private static void promise3() {
         LampCooperative x = withLamps(1, 2, 3);
         x.burnNight();
@@ -89,9 +94,7 @@ public final class LampCooperativePromises extends CooperativeTest {
         }
         x.addMoth(2);
         x.moveMoth(3, -1);
-        for (int lamp : new int[] {-1, 3, 8, Integer.MIN_VALUE, Integer.MAX_VALUE}) {
-            refused(x, "removeLamp(" + lamp + ")", INDEX, () -> x.removeLamp(lamp));
-        }
+        refusedAll(x, "removeLamp(..)", INDEX, x::removeLamp, -1, 3, 8, Integer.MIN_VALUE, Integer.MAX_VALUE);
         due("removeLamp(1)", x.removeLamp(1), 2);
         due("view", view(x), "0: street 0 shares 1 brightness 1 on true oil 10 wick 1 balance 2\n"
                 + "1: street 2 shares 3 brightness 4 on false oil 30 wick 7 balance 6\n"
@@ -119,10 +122,10 @@ public final class LampCooperativePromises extends CooperativeTest {
         due("setShares(1, 4)", x.setShares(1, 4), 4);
         due("sharesOf(0)", x.sharesOf(0), 1);
         due("sharesOf(1)", x.sharesOf(1), 4);
-        for (int shares : new int[] {0, 10, -1, Integer.MIN_VALUE, Integer.MAX_VALUE}) {
-            refused(x, "setShares(0, " + shares + ")", ARGUMENT, () -> x.setShares(0, shares));
-            refused(x, "setShares(2, " + shares + ")", INDEX, () -> x.setShares(2, shares));
-        }
+        refusedAll(x, "setShares(0, ..)", ARGUMENT, shares -> x.setShares(0, shares),
+                0, 10, -1, Integer.MIN_VALUE, Integer.MAX_VALUE);
+        refusedAll(x, "setShares(2, ..)", INDEX, shares -> x.setShares(2, shares),
+                0, 10, -1, Integer.MIN_VALUE, Integer.MAX_VALUE);
         noSuchLamp(x, "setShares", lamp -> x.setShares(lamp, 1));
     }
 
@@ -133,10 +136,10 @@ public final class LampCooperativePromises extends CooperativeTest {
         due("setBrightness(1, 3)", x.setBrightness(1, 3), 1);
         due("brightnessOf(0)", x.brightnessOf(0), 1);
         due("brightnessOf(1)", x.brightnessOf(1), 3);
-        for (int brightness : new int[] {0, 6, -1, Integer.MIN_VALUE, Integer.MAX_VALUE}) {
-            refused(x, "setBrightness(0, " + brightness + ")", ARGUMENT, () -> x.setBrightness(0, brightness));
-            refused(x, "setBrightness(-1, " + brightness + ")", INDEX, () -> x.setBrightness(-1, brightness));
-        }
+        refusedAll(x, "setBrightness(0, ..)", ARGUMENT, brightness -> x.setBrightness(0, brightness),
+                0, 6, -1, Integer.MIN_VALUE, Integer.MAX_VALUE);
+        refusedAll(x, "setBrightness(-1, ..)", INDEX, brightness -> x.setBrightness(-1, brightness),
+                0, 6, -1, Integer.MIN_VALUE, Integer.MAX_VALUE);
         noSuchLamp(x, "setBrightness", lamp -> x.setBrightness(lamp, 1));
     }
 
@@ -243,9 +246,7 @@ public final class LampCooperativePromises extends CooperativeTest {
         x.addLamp(0, 3);
         x.addLamp(0, 2);
         x.addLamp(0, 2);
-        for (int amount : new int[] {0, -1, 201, Integer.MIN_VALUE, Integer.MAX_VALUE}) {
-            refused(x, "deliverOil(" + amount + ")", ARGUMENT, () -> x.deliverOil(amount));
-        }
+        refusedAll(x, "deliverOil(..)", ARGUMENT, x::deliverOil, 0, -1, 201, Integer.MIN_VALUE, Integer.MAX_VALUE);
         due("deliverOil(1)", x.deliverOil(1), 1);
         due("oilOf(0)", x.oilOf(0), 1);
         // 9 * 3 / 7 = 3 rest 6, 9 * 2 / 7 = 2 rest 4: 2 units are left, for lamps 0 and 1.
@@ -277,10 +278,10 @@ public final class LampCooperativePromises extends CooperativeTest {
         x.burnNight();
         x.payDividend();
         due("balanceOf(0)", x.balanceOf(0), 5);
-        for (int units : new int[] {0, -1, 61, Integer.MIN_VALUE, Integer.MAX_VALUE}) {
-            refused(x, "buyOil(0, " + units + ")", ARGUMENT, () -> x.buyOil(0, units));
-            refused(x, "buyOil(2, " + units + ")", INDEX, () -> x.buyOil(2, units));
-        }
+        refusedAll(x, "buyOil(0, ..)", ARGUMENT, units -> x.buyOil(0, units),
+                0, -1, 61, Integer.MIN_VALUE, Integer.MAX_VALUE);
+        refusedAll(x, "buyOil(2, ..)", INDEX, units -> x.buyOil(2, units),
+                0, -1, 61, Integer.MIN_VALUE, Integer.MAX_VALUE);
         noSuchLamp(x, "buyOil", lamp -> x.buyOil(lamp, 1));
         refused(x, "buyOil(0, 6) without the room or the coins", STATE, () -> x.buyOil(0, 6));
         refused(x, "buyOil(0, 60)", STATE, () -> x.buyOil(0, 60));
@@ -339,9 +340,7 @@ public final class LampCooperativePromises extends CooperativeTest {
 
     private static void promise18() {
         LampCooperative x = new LampCooperative();
-        for (int units : new int[] {0, -1, 51, Integer.MIN_VALUE, Integer.MAX_VALUE}) {
-            refused(x, "donateWicks(" + units + ")", ARGUMENT, () -> x.donateWicks(units));
-        }
+        refusedAll(x, "donateWicks(..)", ARGUMENT, x::donateWicks, 0, -1, 51, Integer.MIN_VALUE, Integer.MAX_VALUE);
         due("donateWicks(50)", x.donateWicks(50), 50);
         refused(x, "donateWicks(50)", STATE, () -> x.donateWicks(50));
         refused(x, "donateWicks(51)", ARGUMENT, () -> x.donateWicks(51));
@@ -355,10 +354,10 @@ public final class LampCooperativePromises extends CooperativeTest {
         LampCooperative x = withLamps(1, 1);
         refused(x, "giveWick(0, 1)", STATE, () -> x.giveWick(0, 1));
         x.donateWicks(15);
-        for (int units : new int[] {0, -1, 10, Integer.MIN_VALUE, Integer.MAX_VALUE}) {
-            refused(x, "giveWick(0, " + units + ")", ARGUMENT, () -> x.giveWick(0, units));
-            refused(x, "giveWick(2, " + units + ")", INDEX, () -> x.giveWick(2, units));
-        }
+        refusedAll(x, "giveWick(0, ..)", ARGUMENT, units -> x.giveWick(0, units),
+                0, -1, 10, Integer.MIN_VALUE, Integer.MAX_VALUE);
+        refusedAll(x, "giveWick(2, ..)", INDEX, units -> x.giveWick(2, units),
+                0, -1, 10, Integer.MIN_VALUE, Integer.MAX_VALUE);
         noSuchLamp(x, "giveWick", lamp -> x.giveWick(lamp, 1));
         due("giveWick(0, 3)", x.giveWick(0, 3), 3);
         due("pool()", x.pool(), 12);
@@ -374,10 +373,10 @@ public final class LampCooperativePromises extends CooperativeTest {
         x.donateWicks(20);
         x.giveWick(0, 9);
         x.giveWick(1, 4);
-        for (int units : new int[] {0, -1, 10, Integer.MIN_VALUE, Integer.MAX_VALUE}) {
-            refused(x, "returnWick(0, " + units + ")", ARGUMENT, () -> x.returnWick(0, units));
-            refused(x, "returnWick(-1, " + units + ")", INDEX, () -> x.returnWick(-1, units));
-        }
+        refusedAll(x, "returnWick(0, ..)", ARGUMENT, units -> x.returnWick(0, units),
+                0, -1, 10, Integer.MIN_VALUE, Integer.MAX_VALUE);
+        refusedAll(x, "returnWick(-1, ..)", INDEX, units -> x.returnWick(-1, units),
+                0, -1, 10, Integer.MIN_VALUE, Integer.MAX_VALUE);
         noSuchLamp(x, "returnWick", lamp -> x.returnWick(lamp, 1));
         refused(x, "returnWick(1, 5)", STATE, () -> x.returnWick(1, 5));
         due("returnWick(1, 1)", x.returnWick(1, 1), 3);
@@ -469,10 +468,10 @@ public final class LampCooperativePromises extends CooperativeTest {
             due("undoable", undoable(x), shares[row].length);
         }
         LampCooperative x = withLamps(3, 4);
-        for (int amount : new int[] {-1, 1000, Integer.MIN_VALUE, Integer.MAX_VALUE}) {
-            refused(x, call + "(0, " + amount + ")", ARGUMENT, () -> portion.of(x, 0, amount));
-            refused(x, call + "(2, " + amount + ")", INDEX, () -> portion.of(x, 2, amount));
-        }
+        refusedAll(x, call + "(0, ..)", ARGUMENT, amount -> portion.of(x, 0, amount),
+                -1, 1000, Integer.MIN_VALUE, Integer.MAX_VALUE);
+        refusedAll(x, call + "(2, ..)", INDEX, amount -> portion.of(x, 2, amount),
+                -1, 1000, Integer.MIN_VALUE, Integer.MAX_VALUE);
         noSuchLamp(x, call, lamp -> portion.of(x, lamp, 1));
         x.setShares(0, 1);
         due(call + " after setShares", portion.of(x, 0, 999), 200);
@@ -485,8 +484,8 @@ public final class LampCooperativePromises extends CooperativeTest {
 
     private static void promise26() {
         portions("portionByRounds", LampCooperative::portionByRounds);
-        LampCooperative x = withLamps(5, 1, 7, 7, 2, 9, 3, 4);
         for (int amount = 0; amount <= 999; amount++) {
+            LampCooperative x = withLamps(5, 1, 7, 7, 2, 9, 3, 4);
             int sum = 0;
             for (int lamp = 0; lamp < 8; lamp++) {
                 due("portionByRounds(" + lamp + ", " + amount + ")", x.portionByRounds(lamp, amount),
@@ -499,8 +498,8 @@ public final class LampCooperativePromises extends CooperativeTest {
 
     private static void promise27() {
         LampCooperative x = withLamps(1, 1);
+        noSuchLamp(x, "addMoth", x::addMoth);
         for (int moth = 0; moth < 6; moth++) {
-            noSuchLamp(x, "addMoth", x::addMoth);
             due("addMoth", x.addMoth(moth % 2), moth);
             due("lampOfMoth", x.lampOfMoth(moth), moth % 2);
             due("strikesOf", x.strikesOf(moth), 0);
@@ -530,10 +529,10 @@ public final class LampCooperativePromises extends CooperativeTest {
         due("moveMoth(0, 0)", x.moveMoth(0, 0), -1);
         due("lampOfMoth(0)", x.lampOfMoth(0), 0);
         due("lampOfMoth(1)", x.lampOfMoth(1), 1);
-        for (int number : new int[] {-2, 2, 8, Integer.MIN_VALUE, Integer.MAX_VALUE}) {
-            refused(x, "moveMoth(0, " + number + ")", INDEX, () -> x.moveMoth(0, number));
-            refused(x, "moveMoth(" + number + ", 0)", INDEX, () -> x.moveMoth(number, 0));
-        }
+        refusedAll(x, "moveMoth(0, ..)", INDEX, number -> x.moveMoth(0, number),
+                -2, 2, 8, Integer.MIN_VALUE, Integer.MAX_VALUE);
+        refusedAll(x, "moveMoth(.., 0)", INDEX, number -> x.moveMoth(number, 0),
+                -2, 2, 8, Integer.MIN_VALUE, Integer.MAX_VALUE);
         refused(x, "moveMoth(-1, -1)", INDEX, () -> x.moveMoth(-1, -1));
         due("undoable", undoable(x), 8);
     }
@@ -551,10 +550,8 @@ public final class LampCooperativePromises extends CooperativeTest {
         due("mothCount()", x.mothCount(), 1);
     }
 
-    private static void noSuchMoth(LampCooperative x, String call, java.util.function.IntFunction<Object> query) {
-        for (int moth : new int[] {-1, 2, 6, Integer.MIN_VALUE, Integer.MAX_VALUE}) {
-            refused(x, call + "(" + moth + ")", INDEX, () -> query.apply(moth));
-        }
+    private static void noSuchMoth(LampCooperative x, String call, IntFunction<Object> query) {
+        refusedAll(x, call + "(..)", INDEX, query, -1, 2, 6, Integer.MIN_VALUE, Integer.MAX_VALUE);
     }
 
     private static LampCooperative withTwoMoths() {
@@ -752,7 +749,7 @@ public final class LampCooperativePromises extends CooperativeTest {
 
     private static void nights(String call, boolean simulated) {
         LampCooperative x = withLamps(1, 1);
-        java.util.function.IntFunction<Object> nights =
+        IntFunction<Object> nights =
                 lamp -> simulated ? x.nightsBySimulation(lamp) : x.nightsOf(lamp);
         due(call, nights.apply(0), 0);
         x.deliverOil(40);
@@ -799,10 +796,8 @@ public final class LampCooperativePromises extends CooperativeTest {
         return x;
     }
 
-    private static void noSuchStreet(LampCooperative x, String call, java.util.function.IntFunction<Object> query) {
-        for (int street : new int[] {-1, 4, Integer.MIN_VALUE, Integer.MAX_VALUE}) {
-            refused(x, call + "(" + street + ")", INDEX, () -> query.apply(street));
-        }
+    private static void noSuchStreet(LampCooperative x, String call, IntFunction<Object> query) {
+        refusedAll(x, call + "(..)", INDEX, query, -1, 4, Integer.MIN_VALUE, Integer.MAX_VALUE);
     }
 
     private static void promise39() {
@@ -853,9 +848,7 @@ public final class LampCooperativePromises extends CooperativeTest {
 
     private static void promise42() {
         LampCooperative x = new LampCooperative();
-        for (int cap : new int[] {0, 6, -1, Integer.MIN_VALUE, Integer.MAX_VALUE}) {
-            refused(x, "proposeCap(" + cap + ")", ARGUMENT, () -> x.proposeCap(cap));
-        }
+        refusedAll(x, "proposeCap(..)", ARGUMENT, x::proposeCap, 0, 6, -1, Integer.MIN_VALUE, Integer.MAX_VALUE);
         refused(x, "proposeCap(1)", STATE, () -> x.proposeCap(1));
         x.addLamp(0, 2);
         x.addLamp(1, 3);
@@ -864,9 +857,7 @@ public final class LampCooperativePromises extends CooperativeTest {
         x.setBrightness(1, 4);
         x.setBrightness(2, 2);
         x.switchOff(2);
-        for (int cap : new int[] {0, 6, -1, Integer.MIN_VALUE, Integer.MAX_VALUE}) {
-            refused(x, "proposeCap(" + cap + ")", ARGUMENT, () -> x.proposeCap(cap));
-        }
+        refusedAll(x, "proposeCap(..)", ARGUMENT, x::proposeCap, 0, 6, -1, Integer.MIN_VALUE, Integer.MAX_VALUE);
         String before = view(x);
         due("proposeCap(1)", x.proposeCap(1), false);
         due("proposeCap(2) with just half of the shares", x.proposeCap(2), false);
@@ -899,9 +890,7 @@ public final class LampCooperativePromises extends CooperativeTest {
         for (int cap = 1; cap <= 5; cap++) {
             due("votesFor(" + cap + ")", x.votesFor(cap), dues[cap - 1]);
         }
-        for (int cap : new int[] {0, 6, -1, Integer.MIN_VALUE, Integer.MAX_VALUE}) {
-            refused(x, "votesFor(" + cap + ")", ARGUMENT, () -> x.votesFor(cap));
-        }
+        refusedAll(x, "votesFor(..)", ARGUMENT, x::votesFor, 0, 6, -1, Integer.MIN_VALUE, Integer.MAX_VALUE);
     }
 
     private static void promise44() {
@@ -928,10 +917,8 @@ public final class LampCooperativePromises extends CooperativeTest {
         due("totalShares()", x.totalShares(), 63);
     }
 
-    private static void badRanks(LampCooperative x, String call, java.util.function.IntFunction<Object> query) {
-        for (int rank : new int[] {-1, x.lampCount(), 8, Integer.MIN_VALUE, Integer.MAX_VALUE}) {
-            refused(x, call + "(" + rank + ")", NO_ELEMENT, () -> query.apply(rank));
-        }
+    private static void badRanks(LampCooperative x, String call, IntFunction<Object> query) {
+        refusedAll(x, call + "(..)", NO_ELEMENT, query, -1, x.lampCount(), 8, Integer.MIN_VALUE, Integer.MAX_VALUE);
     }
 
     private static void promise46() {
@@ -1003,9 +990,7 @@ public final class LampCooperativePromises extends CooperativeTest {
         due("line", line(x), "2:0*3o15w4!");
         due("writeLamp(1)", x.writeLamp(1), 10);
         due("line", line(x), "1:2*1o15w0");
-        for (int lamp : new int[] {-1, 3, 8, Integer.MIN_VALUE, Integer.MAX_VALUE}) {
-            refused(x, "writeLamp(" + lamp + ")", INDEX, () -> x.writeLamp(lamp));
-        }
+        refusedAll(x, "writeLamp(..)", INDEX, x::writeLamp, -1, 3, 8, Integer.MIN_VALUE, Integer.MAX_VALUE);
         x.save();
         x.writeLamp(0);
         x.undo();
@@ -1016,17 +1001,13 @@ public final class LampCooperativePromises extends CooperativeTest {
 
     private static void promise49() {
         LampCooperative x = withLamps(7);
-        for (int index : new int[] {0, -1, 1, Integer.MIN_VALUE, Integer.MAX_VALUE}) {
-            refused(x, "lineAt(" + index + ") of the empty line", INDEX, () -> x.lineAt(index));
-        }
+        refusedAll(x, "lineAt(..) of the empty line", INDEX, x::lineAt, 0, -1, 1, Integer.MIN_VALUE, Integer.MAX_VALUE);
         x.writeLamp(0);
         String line = "0:0*1o0w0";
         for (int index = 0; index < line.length(); index++) {
             due("lineAt(" + index + ")", x.lineAt(index), line.charAt(index));
         }
-        for (int index : new int[] {-1, 9, 10, Integer.MIN_VALUE, Integer.MAX_VALUE}) {
-            refused(x, "lineAt(" + index + ")", INDEX, () -> x.lineAt(index));
-        }
+        refusedAll(x, "lineAt(..)", INDEX, x::lineAt, -1, 9, 10, Integer.MIN_VALUE, Integer.MAX_VALUE);
     }
 
     private static void promise50() {
@@ -1237,48 +1218,24 @@ public final class LampCooperativePromises extends CooperativeTest {
 
     /** Each command fails just as its method does, and takes back what came before it. */
     private static void failingTexts() {
-        LampCooperative x = withLamps(1, 1);
-        x.deliverOil(100);
-        fails(x, "night;lamp 4 1", 1);
-        fails(x, "lamp 0 0", 0);
-        fails(x, "remove 2", 0);
-        fails(x, "remove 1;remove 1", 1);
-        fails(x, "oil 0", 0);
-        fails(x, "oil 201", 0);
-        fails(x, "oil 200;oil 999", 1);
-        fails(x, "remove 0;remove 0;oil 1", 2);
-        fails(x, "wick 000", 0);
-        fails(x, "wick 51", 0);
-        fails(x, "wick 50;wick 50", 1);
-        fails(x, "give 0 1", 0);
-        fails(x, "wick 50;give 0 0", 1);
-        fails(x, "wick 50;give 0 9;give 0 1", 2);
-        fails(x, "give 2 1", 0);
-        fails(x, "bright 0 0", 0);
-        fails(x, "bright 0 6", 0);
-        fails(x, "bright 2 1", 0);
-        fails(x, "on 2", 0);
-        fails(x, "off 9", 0);
-        fails(x, "moth 2", 0);
-        fails(x, "moth 0;moth 0;moth 0;moth 0;moth 0;moth 0;moth 0", 6);
-        fails(x, "cap 0", 0);
-        fails(x, "cap 6", 0);
-        fails(x, "remove 0;remove 0;cap 1", 2);
-        fails(x, "pay", 0);
-        fails(x, "night;pay;pay", 2);
-        fails(x, "remove 0;remove 0;night;pay", 3);
-        fails(x, "buy 2 1", 0);
-        fails(x, "buy 0 0", 0);
-        fails(x, "night;pay;buy 0 61", 2);
-        fails(x, "night;pay;buy 0 1", 2);
-        fails(x, "oil 200;buy 0 1", 1);
-        fails(x, "pay;pay;pay;pay;pay;pay;pay;pay;pay;pay;pay;pay;pay;pay;pay", 0);
-        // A failed text is no modification.
-        due("undo()", x.undo(), 2);
-        due("oilOf(0)", x.oilOf(0), 0);
+        String[] failAtTheEnd = {"night;lamp 4 1", "lamp 0 0", "remove 2", "remove 1;remove 1", "oil 0", "oil 201",
+            "oil 200;oil 999", "remove 0;remove 0;oil 1", "wick 000", "wick 51", "wick 50;wick 50", "give 0 1",
+            "wick 50;give 0 0", "wick 50;give 0 9;give 0 1", "give 2 1", "bright 0 0", "bright 0 6", "bright 2 1",
+            "on 2", "off 9", "moth 2", "moth 0;moth 0;moth 0;moth 0;moth 0;moth 0;moth 0", "cap 0", "cap 6",
+            "remove 0;remove 0;cap 1", "pay", "night;pay;pay", "remove 0;remove 0;night;pay", "buy 2 1", "buy 0 0",
+            "night;pay;buy 0 61", "night;pay;buy 0 1", "oil 200;buy 0 1"};
+        for (String text : failAtTheEnd) {
+            LampCooperative x = withLamps(1, 1);
+            x.deliverOil(100);
+            fails(x, text, text.split(";").length - 1);
+            // A failed text is no modification.
+            due("undo()", x.undo(), 2);
+            due("oilOf(0)", x.oilOf(0), 0);
+        }
+        fails(withLamps(1, 1), "pay;".repeat(14) + "pay", 0);
         // A malformed text runs nothing, even if a command before the error would fail.
-        malformed(x, "night;night;x", 12);
-        malformed(x, "cap 0;x", 6);
+        malformed(withLamps(1, 1), "night;night;x", 12);
+        malformed(withLamps(1, 1), "cap 0;x", 6);
     }
 
     private static void promise54() {
@@ -1293,23 +1250,25 @@ public final class LampCooperativePromises extends CooperativeTest {
         for (String[] row : new String[][] {
                 {" ", "0"}, {"x", "0"}, {";", "0"}, {"N", "0"}, {"0", "0"}, {" night", "0"},
                 {"n", "1"}, {"nx", "1"}, {"nigh", "4"}, {"nighs", "4"}, {"nightt", "5"}, {"night ", "5"},
-                {"night 1", "5"}, {"nightn", "5"}, {"nightnight", "5"}, {"on 1off 2", "4"}, {"oil 1pay", "5"}, {"night;", "6"}, {"night;;", "6"}, {"night; pay", "6"}, {"night;x", "6"},
+                {"night 1", "5"}, {"nightn", "5"}, {"nightnight", "5"}, {"on 1off 2", "4"}, {"oil 1pay", "5"},
+                {"night;", "6"}, {"night;;", "6"}, {"night; pay", "6"}, {"night;x", "6"},
                 {"night,pay", "5"}, {"o", "1"}, {"ox", "1"}, {"of", "2"}, {"of 1", "2"}, {"oi", "2"}, {"oil", "3"},
                 {"oil ", "4"}, {"oil  1", "4"}, {"oil 1 ", "5"}, {"oil 1234", "7"}, {"oil 12x", "6"}, {"oil 1;", "6"},
                 {"oil -1", "4"}, {"oill", "3"}, {"on", "2"}, {"one", "2"}, {"on ", "3"}, {"on 12", "4"}, {"on x", "3"},
                 {"off", "3"}, {"off 1 2", "5"}, {"lamp 1", "6"}, {"lamp 1 ", "7"}, {"lamp 1 22", "8"},
                 {"lamp 11 2", "6"}, {"lamp1 2", "4"}, {"lam", "3"}, {"lemp", "1"}, {"remove", "6"}, {"remove 0 1", "8"},
                 {"remov 0", "5"}, {"wick", "4"}, {"wick 0000", "8"}, {"wack", "1"}, {"give 1;", "6"},
-                {"give 1 2 3", "8"}, {"gi", "2"}, {"bright 1", "8"}, {"bright 1 23", "10"}, {"bu", "2"}, {"buy 1", "5"}, {"buy 12", "5"},
+                {"give 1 2 3", "8"}, {"gi", "2"}, {"bright 1", "8"}, {"bright 1 23", "10"},
+                {"bu", "2"}, {"buy 1", "5"}, {"buy 12", "5"},
                 {"buy 1 ", "6"}, {"buy 1 1234", "9"}, {"buy 1 123 ", "9"}, {"b", "1"}, {"ba", "1"}, {"br", "2"},
                 {"bry", "2"}, {"moth", "4"}, {"moth 12", "6"}, {"cap", "3"}, {"cap 1 2", "5"}, {"caps", "3"},
                 {"p", "1"}, {"pa", "2"}, {"pays", "3"}, {"pay pay", "3"}, {"pay;pa", "6"}, {"pay;oil 1;nighty", "15"},
                 {"~", "0"}, {"oil /", "4"}, {"oil :", "4"}, {"oil 1/", "5"}, {"oil 1:", "5"}}) {
-            malformed(x, row[0], Integer.parseInt(row[1]));
+            malformed(withLamps(1), row[0], Integer.parseInt(row[1]));
         }
-        malformed(x, "pay;pay;pay;pay;pay;pay;pay;pay;pay;pay;pay;pay;pay;pay;pay;", 60);
-        malformed(x, "night;night;night;night;night;night;night;night;night;night;", 60);
-        malformed(x, "pay;pay;pay;pay;pay;pay;pay;pay;pay;pay;pay;pay;pay;pay;payx", 59);
+        malformed(withLamps(1), "pay;".repeat(15), 60);
+        malformed(withLamps(1), "night;".repeat(10), 60);
+        malformed(withLamps(1), "pay;".repeat(14) + "payx", 59);
         malformed(x, "pay;x", 4);
         x.burnNight();
         x.undo();
@@ -1341,61 +1300,52 @@ public final class LampCooperativePromises extends CooperativeTest {
         due("failedCommand() after restore", x.failedCommand(), 1);
     }
 
-    private static void promise56() {
+    private static LampCooperative modified(int times) {
         LampCooperative x = new LampCooperative();
-        refused(x, "undo()", STATE, x::undo);
-        List<String> views = new ArrayList<>();
-        List<Supplier<Object>> modifications = new ArrayList<>();
-        modifications.add(() -> x.addLamp(0, 1));
-        modifications.add(() -> x.addLamp(1, 2));
-        modifications.add(() -> x.setShares(0, 1));
-        modifications.add(() -> x.setBrightness(0, 3));
-        modifications.add(() -> x.switchOn(0));
-        modifications.add(() -> x.switchOff(1));
-        modifications.add(() -> x.deliverOil(200));
-        modifications.add(() -> x.donateWicks(20));
-        modifications.add(() -> x.giveWick(0, 9));
-        modifications.add(() -> x.returnWick(0, 1));
-        modifications.add(() -> x.addMoth(1));
-        modifications.add(() -> x.moveMoth(0, 1));
-        modifications.add(() -> x.moveMoth(0, 0));
-        modifications.add(x::burnNight);
-        modifications.add(x::payDividend);
-        modifications.add(() -> x.buyOil(0, 2));
-        modifications.add(() -> x.proposeCap(1));
-        modifications.add(() -> x.proposeCap(4));
-        modifications.add(() -> run(x, "night;off 0;night;on 0"));
-        modifications.add(() -> x.removeLamp(0));
-        int undoable = 0;
-        for (Supplier<Object> modification : modifications) {
-            views.add(view(x));
-            modification.get();
-            undoable = Math.min(undoable + 1, 8);
-            // Undo and the same call again leave as much to be undone.
-            due("undo()", x.undo(), undoable - 1);
-            due("view after undo", view(x), views.get(views.size() - 1));
-            due("isBalanced()", x.isBalanced(), true);
-            modification.get();
-            // Queries and refused calls are no modifications.
-            x.isBalanced();
-            x.writeLamp(0);
-            x.save();
-            refused(x, "setShares(8, 1)", INDEX, () -> x.setShares(8, 1));
-            x.type('x');
-            refused(x, "execute()", ARGUMENT, x::execute);
+        for (int number = 0; number < times; number++) {
+            MODIFICATIONS.get(number).apply(x);
         }
-        // The line is not undone, so the views below are taken with the line as it is now.
+        return x;
+    }
+
+    private static void promise56() {
+        LampCooperative fresh = new LampCooperative();
+        refused(fresh, "undo()", STATE, fresh::undo);
+        for (int number = 0; number < MODIFICATIONS.size(); number++) {
+            LampCooperative x = modified(number);
+            String before = view(x);
+            Function<LampCooperative, Object> modification = MODIFICATIONS.get(number);
+            modification.apply(x);
+            // Undo and the same call again leave as much to be undone.
+            int undoable = Math.min(number + 1, 8);
+            due("undo() of modification " + number, x.undo(), undoable - 1);
+            due("view after undo", view(x), before);
+            due("isBalanced()", x.isBalanced(), true);
+            modification.apply(x);
+            notModified(x);
+            due("undo() of modification " + number + " again", x.undo(), undoable - 1);
+            due("view after undo", stateView(x), stateView(modified(number)));
+        }
+        LampCooperative x = modified(MODIFICATIONS.size());
         for (int left = 7; left >= 0; left--) {
             due("undo()", x.undo(), left);
-            due("view after undo", withoutLine(view(x)), withoutLine(views.get(views.size() - 8 + left)));
+            due("view after undo", view(x), view(modified(MODIFICATIONS.size() - 8 + left)));
         }
         refused(x, "undo() of the ninth", STATE, x::undo);
         x.burnNight();
         due("undo()", x.undo(), 0);
     }
 
-    private static String withoutLine(String view) {
-        return view.substring(0, view.indexOf(" line "));
+    /** Queries and refused calls are no modifications. */
+    private static void notModified(LampCooperative x) {
+        x.isBalanced();
+        if (x.lampCount() > 0) {
+            x.writeLamp(0);
+        }
+        x.save();
+        refused(x, "setShares(8, 1)", INDEX, () -> x.setShares(8, 1));
+        x.type('x');
+        refused(x, "execute()", ARGUMENT, x::execute);
     }
 
     private static void promise57() {

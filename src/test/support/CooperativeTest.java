@@ -1,4 +1,5 @@
 import java.util.NoSuchElementException;
+import java.util.function.IntFunction;
 import java.util.function.Supplier;
 
 /** What the tests share: answers compared, refused calls, texts, and cooperatives to start from. */
@@ -35,6 +36,15 @@ abstract class CooperativeTest {
     static void refused(LampCooperative x, String call, Class<?> kind, Supplier<Object> supplier) {
         String before = view(x);
         dueThrow(call, kind, supplier);
+        due("the state after " + call, view(x), before);
+    }
+
+    /** One look at the state before all the numbers and one after them: an object has 512 calls and no more. */
+    static void refusedAll(LampCooperative x, String call, Class<?> kind, IntFunction<Object> asked, int... numbers) {
+        String before = view(x);
+        for (int number : numbers) {
+            dueThrow(call + " with " + number, kind, () -> asked.apply(number));
+        }
         due("the state after " + call, view(x), before);
     }
 

@@ -239,6 +239,10 @@ final class LampSentences extends SentenceTest {
             int gone = removed;
             sentence(3, decrease, () -> {
                 LampCooperative x = eightLamps();
+                for (int lamp = 0; lamp < 8; lamp += 2) {
+                    x.setBrightness(lamp, 5 - lamp / 2);
+                    x.switchOff(lamp);
+                }
                 String before = stateView(x);
                 x.removeLamp(gone);
                 String after = stateView(x);

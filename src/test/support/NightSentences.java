@@ -168,7 +168,8 @@ final class NightSentences extends SentenceTest {
     }
 
     private static void probation() {
-        String less = "any other moth on probation has one night less left, and becomes a member when no night is left;";
+        String less = "any other moth on probation has one night less left, "
+                + "and becomes a member when no night is left;";
         sentence(34, less, () -> {
             LampCooperative x = withLamps(1);
             x.addMoth(0);

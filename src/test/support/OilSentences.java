@@ -79,7 +79,8 @@ final class OilSentences extends SentenceTest {
             refusesNumbers(SentenceTest::lived, "deliverOil", ARGUMENT, LampCooperative::deliverOil, -1, 1000);
         });
         sentence(16, "Throws `IllegalStateException` if there are no lamps", () -> {
-            refusesNumbers(LampCooperative::new, "deliverOil without lamps", STATE, LampCooperative::deliverOil, 1, 200);
+            refusesNumbers(LampCooperative::new, "deliverOil without lamps", STATE, LampCooperative::deliverOil,
+                    1, 200);
             refusedAlike(() -> {
                 LampCooperative x = withLamps(1);
                 x.deliverOil(9);
@@ -260,7 +261,8 @@ final class OilSentences extends SentenceTest {
     }
 
     private static void payDividend() {
-        sentence(21, "Pays the whole treasury as a dividend, which is apportioned among the balances of all lamps.", () -> {
+        sentence(21, "Pays the whole treasury as a dividend, which is apportioned among the balances "
+                + "of all lamps.", () -> {
             LampCooperative x = withLamps(9, 8, 7, 6, 5, 4, 3, 2);
             x.burnNight();
             x.switchOff(0);
@@ -376,7 +378,8 @@ final class OilSentences extends SentenceTest {
     }
 
     private static void bothPortions() {
-        sentence(25, "Returns what a lamp would receive if an amount was apportioned now, by sorting the remainders.", () -> {
+        sentence(25, "Returns what a lamp would receive if an amount was apportioned now, "
+                + "by sorting the remainders.", () -> {
             LampCooperative x = withLamps(3, 3, 1);
             // 20 by 7 shares: 8 rest 4, 8 rest 4, 2 rest 6.
             due("portions of 20", portions(x, 20, LampCooperative::portionOf), "9 8 3 ");
@@ -421,7 +424,8 @@ final class OilSentences extends SentenceTest {
                 due("the sum of the portions of " + amount, sum, amount);
             }
         });
-        sentence(promise, "The quota of a lamp is the amount times its shares, divided by the number of all shares.", () -> {
+        sentence(promise, "The quota of a lamp is the amount times its shares, "
+                + "divided by the number of all shares.", () -> {
             LampCooperative x = withLamps(1, 9, 2);
             due("whole quotas", portions(x, 996, portion), "83 747 166 ");
             due("whole quotas of nothing", portions(x, 0, portion), "0 0 0 ");
@@ -459,7 +463,8 @@ final class OilSentences extends SentenceTest {
                     outside(1, 200)));
         sentence(17, FIRST_EXCEPTION, () -> {
             refusesNumbers(SentenceTest::lived, "buyOil(.., 0)", INDEX, (x, lamp) -> x.buyOil(lamp, 0), outside(0, 1));
-            refusesNumbers(SentenceTest::lived, "buyOil(.., 60)", INDEX, (x, lamp) -> x.buyOil(lamp, 60), outside(0, 1));
+            refusesNumbers(SentenceTest::lived, "buyOil(.., 60)", INDEX, (x, lamp) -> x.buyOil(lamp, 60),
+                    outside(0, 1));
             refusesNumbers(() -> buyer(0, 60, 0), "the units in an impossible buyOil", ARGUMENT,
                     (x, units) -> x.buyOil(0, units), outside(1, 60));
         });

@@ -203,14 +203,11 @@ final class TextSentences extends SentenceTest {
         stand("oil 200", x -> x.deliverOil(200));
         stand("wick 1", x -> x.donateWicks(1));
         stand("wick 050", x -> x.donateWicks(50));
-        stand("give 2 3", x -> x.giveWick(2, 3));
+        stand("give 4 2", x -> x.giveWick(4, 2));
         stand("bright 2 5", x -> x.setBrightness(2, 5));
         stand("bright 5 2", x -> x.setBrightness(5, 2));
         stand("off 6", x -> x.switchOff(6));
-        stand("off 6;on 6", x -> {
-            x.switchOff(6);
-            return x.switchOn(6);
-        });
+        stand("on 5", x -> x.switchOn(5));
         stand("moth 3", x -> x.addMoth(3));
         stand("cap 1", x -> x.proposeCap(1));
         stand("cap 2", x -> x.proposeCap(2));
@@ -234,7 +231,7 @@ final class TextSentences extends SentenceTest {
         });
     }
 
-    /** Room for a lamp and a moth, coins in the treasury, and a lamp of each brightness. */
+    /** Room for a lamp and a moth, coins in the treasury, a lamp of each brightness and one that is off. */
     private static LampCooperative sevenLamps() {
         LampCooperative x = fullHouse();
         x.undo();
@@ -242,6 +239,7 @@ final class TextSentences extends SentenceTest {
         for (int lamp = 0; lamp < 5; lamp++) {
             x.setBrightness(lamp, lamp + 1);
         }
+        x.switchOff(5);
         return x;
     }
 

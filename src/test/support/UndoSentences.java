@@ -26,6 +26,15 @@ final class UndoSentences extends SentenceTest {
             x.undo();
             due("lampCount() after three", x.lampCount(), 0);
         });
+        sentence(56, "Undoes the last modification that can be undone.", () -> {
+            LampCooperative x = fullHouse();
+            String before = stateView(x);
+            changeTheLast(x);
+            for (int left = 7; left >= 0; left--) {
+                due("undo()", x.undo(), left);
+            }
+            due("the last lamp and the last moth", stateView(x), before);
+        });
         sentence(56, "Returns the number of modifications that can still be undone.", () -> {
             LampCooperative x = new LampCooperative();
             x.burnNight();
@@ -65,6 +74,18 @@ final class UndoSentences extends SentenceTest {
             due("undo() after a refused undo", x.undo(), 0);
             refused(x, "undo() of nothing", STATE, x::undo);
         });
+    }
+
+    /** Eight modifications that change all of the last lamp and the last moth of a full house. */
+    private static void changeTheLast(LampCooperative x) {
+        x.removeLamp(7);
+        x.addLamp(0, 9);
+        x.setBrightness(7, 5);
+        x.switchOff(7);
+        x.deliverOil(200);
+        x.giveWick(7, 3);
+        x.moveMoth(5, 0);
+        x.burnNight();
     }
 
     private static void depth() {
@@ -297,6 +318,14 @@ final class UndoSentences extends SentenceTest {
             x.restore();
             due("the state after restore", stateView(x), saved);
             due("isBalanced()", x.isBalanced(), true);
+        });
+        sentence(57, "Saves the state as a snapshot", () -> {
+            LampCooperative x = fullHouse();
+            x.save();
+            String saved = stateView(x);
+            changeTheLast(x);
+            x.restore();
+            due("the last lamp and the last moth", stateView(x), saved);
         });
         sentence(57, "Returns the number of lamps.", () -> {
             LampCooperative x = new LampCooperative();

@@ -100,6 +100,9 @@ final class VoteSentences extends SentenceTest {
             due("brightness", brightness(x), "12333");
             x.proposeCap(5);
             due("brightness under a higher cap", brightness(x), "12333");
+            LampCooperative y = bright(new int[] {1, 9, 1}, new int[] {5, 1, 5});
+            y.proposeCap(2);
+            due("brightness of the first and the last lamp", brightness(y), "212");
         });
     }
 
@@ -437,6 +440,19 @@ final class VoteSentences extends SentenceTest {
             }
             x.restore();
             due("isBalanced() after restore", x.isBalanced(), true);
+        });
+        sentence(51, "Returns whether the totals balance.", () -> {
+            LampCooperative x = members(6);
+            x.deliverOil(60);
+            x.donateWicks(9);
+            x.giveWick(0, 9);
+            x.save();
+            x.burnNight();
+            x.undo();
+            due("isBalanced() after the undo of six meals", x.isBalanced(), true);
+            x.burnNight();
+            x.restore();
+            due("isBalanced() after restore from before six meals", x.isBalanced(), true);
         });
     }
 }
