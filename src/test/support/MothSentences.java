@@ -239,6 +239,20 @@ final class MothSentences extends SentenceTest {
             x.burnNight();
             refused(x, "strikesOf(0) after the second", INDEX, () -> x.strikesOf(0));
         });
+        sentence(31, "Returns the number of strikes, 0 or 1.", () -> {
+            LampCooperative x = oneAlwaysBurning();
+            x.addMoth(0);
+            x.burnNight();
+            x.moveMoth(0, 1);
+            for (int night = 0; night < 3; night++) {
+                x.burnNight();
+            }
+            due("isMember(0)", x.isMember(0), true);
+            due("strikesOf(0) of a member that had a strike", x.strikesOf(0), 1);
+            x.moveMoth(0, 0);
+            x.burnNight();
+            due("strikesOf(0) of a member at a burning lamp", x.strikesOf(0), 1);
+        });
     }
 
     private static void probationOf() {
