@@ -210,27 +210,17 @@ final class LampSentences extends SentenceTest {
         });
         String pool = "Throws `IllegalStateException` if the pool would contain more than 99 units of wick";
         sentence(3, pool, () -> {
-            refusedAlike(() -> fullPool(95, 5), "removeLamp to a pool of 100", STATE, x -> x.removeLamp(0));
-            refusedAlike(() -> fullPool(99, 9), "removeLamp to a pool of 108", STATE, x -> x.removeLamp(0));
-            refusedAlike(() -> fullPool(99, 1), "removeLamp to a pool of 100", STATE, x -> x.removeLamp(0));
+            refusedAlike(() -> holding(5, 95), "removeLamp to a pool of 100", STATE, x -> x.removeLamp(0));
+            refusedAlike(() -> holding(9, 99), "removeLamp to a pool of 108", STATE, x -> x.removeLamp(0));
+            refusedAlike(() -> holding(1, 99), "removeLamp to a pool of 100", STATE, x -> x.removeLamp(0));
         });
         sentence(3, pool, () -> {
-            LampCooperative x = fullPool(94, 5);
+            LampCooperative x = holding(5, 94);
             due("removeLamp to a pool of 99", x.removeLamp(0), 1);
             due("pool()", x.pool(), 99);
             due("removeLamp of a lamp without wick", x.removeLamp(0), 0);
             due("pool()", x.pool(), 99);
         });
-    }
-
-    /** Two lamps, the first with wick, and a pool of so many units. */
-    private static LampCooperative fullPool(int units, int wick) {
-        LampCooperative x = pooled(wick, 2);
-        x.giveWick(0, wick);
-        for (int left = units; left > 0; left -= 50) {
-            x.donateWicks(Math.min(left, 50));
-        }
-        return x;
     }
 
     private static void removedNumbers() {
@@ -495,7 +485,7 @@ final class LampSentences extends SentenceTest {
                     (x, shares) -> x.addLamp(0, shares), outside(1, 9));
         });
         sentence(3, FIRST_EXCEPTION, () ->
-            refusesNumbers(() -> fullPool(99, 9), "removeLamp before a full pool", INDEX,
+            refusesNumbers(() -> holding(9, 99), "removeLamp before a full pool", INDEX,
                     LampCooperative::removeLamp, outside(0, 1)));
         sentence(4, FIRST_EXCEPTION, () -> {
             refusesNumbers(SentenceTest::lived, "setShares(.., 0)", INDEX, (x, lamp) -> x.setShares(lamp, 0),

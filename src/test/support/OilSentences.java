@@ -217,16 +217,6 @@ final class OilSentences extends SentenceTest {
         });
     }
 
-    /** Two lamps, the first with so much wick, and a pool of so many units. */
-    private static LampCooperative holding(int wick, int pool) {
-        LampCooperative x = pooled(wick, 2);
-        x.giveWick(0, wick);
-        for (int left = pool; left > 0; left -= 50) {
-            x.donateWicks(Math.min(left, 50));
-        }
-        return x;
-    }
-
     private static void returnWick() {
         sentence(20, "Moves wick from a lamp to the pool.", () -> {
             LampCooperative x = holding(9, 0);

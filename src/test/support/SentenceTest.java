@@ -222,9 +222,21 @@ abstract class SentenceTest extends CooperativeTest {
         for (int lamp = 0; lamp < lamps; lamp++) {
             x.addLamp(lamp % 4, 1);
         }
+        donate(x, units);
+        return x;
+    }
+
+    private static void donate(LampCooperative x, int units) {
         for (int left = units; left > 0; left -= 50) {
             x.donateWicks(Math.min(left, 50));
         }
+    }
+
+    /** Two lamps, the first with so much wick, and a pool of so many units. */
+    static LampCooperative holding(int wick, int pool) {
+        LampCooperative x = pooled(wick, 2);
+        x.giveWick(0, wick);
+        donate(x, pool);
         return x;
     }
 
