@@ -690,7 +690,30 @@ public final class LampCooperativeAgainstModel {
             return agreesOn("execute", 0, 0) && agreesOn("errorPosition", 0, 0) && agreesOn("failedCommand", 0, 0);
         }
 
+        /** Chance alone seldom fills a house or a pool. */
+        private boolean agreesOnHouse() {
+            int lamps = random.nextInt(9);
+            boolean fine = true;
+            for (int lamp = 0; fine && lamp < lamps; lamp++) {
+                fine = agreesOn("addLamp", random.nextInt(4), random.nextInt(9) + 1);
+            }
+            for (int moth = random.nextInt(7); fine && moth > 0; moth--) {
+                fine = agreesOn("addMoth", random.nextInt(8), 0);
+            }
+            for (int supply = random.nextInt(4); fine && supply > 0; supply--) {
+                fine = agreesOn("deliverOil", random.nextInt(200) + 1, 0)
+                        && agreesOn("donateWicks", random.nextInt(50) + 1, 0);
+            }
+            for (int lamp = 0; fine && lamp < lamps; lamp++) {
+                fine = agreesOn("giveWick", lamp, random.nextInt(9) + 1);
+            }
+            return fine;
+        }
+
         boolean agrees() {
+            if (random.nextBoolean() && !agreesOnHouse()) {
+                return false;
+            }
             int textsIn = random.nextInt(30) + 2;
             int looksIn = random.nextInt(60) + 2;
             // Half of the runs look at the state, the others have the more calls for it.
